@@ -716,6 +716,15 @@ public final class PromiseTest {
         JuryTable x = withEntries(1);
         row(x, fine, 0, 0.0625, 0.0625);
         due("sum() of two sixteenths", 1L, x.sum(fine, 0));
+        x.clear(fine, 0, 0);
+        due("sum() of 1/16 drops its rest", 0L, x.sum(fine, 0));
+        row(x, fine, 0, null, -0.0625);
+        due("sum() of -1/16 drops its rest", 0L, x.sum(fine, 0));
+        row(x, fine, 0, 1.0, -0.0625, -0.0625);
+        due("sum() of 1 and two times -1/16", 7L, x.sum(fine, 0));
+        row(x, fine, 0, -1.0, 0.0625, 0.0625);
+        due("sum() of -1 and two times 1/16", -7L, x.sum(fine, 0));
+        x.clear(fine, 0, 2);
         row(x, fine, 0, 1.0, -0.0625);
         due("sum() of 1 and -1/16 drops its rest", 7L, x.sum(fine, 0));
         row(x, fine, 0, -1.0, 0.0625);
