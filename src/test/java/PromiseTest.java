@@ -59,11 +59,9 @@ public final class PromiseTest {
         }
     }
 
-    /** The call throws just this, and nothing that can be asked for has changed. */
-    private static void refused(JuryTable x, String call, Class<?> want, Supplier<Object> made) {
-        String before = state(x);
+    /** That nothing changes where a call throws is looked at by BoundaryTest. */
+    private static void refused(String call, Class<?> want, Supplier<Object> made) {
         due(call, want, answer(made));
-        due("the state behind " + call, before, state(x));
     }
 
     private static JuryTable withEntries(int entries) {
@@ -110,27 +108,6 @@ public final class PromiseTest {
         }
     }
 
-    private static String state(JuryTable x) {
-        StringBuilder text = new StringBuilder();
-        for (int what = 0; what <= 8; what++) {
-            text.append(x.count(what)).append(' ');
-        }
-        for (boolean fine : BOTH) {
-            for (int entry = NONE; entry < x.count(0); entry++) {
-                text.append('|');
-                for (int seat = 0; seat < 5; seat++) {
-                    final int e = entry;
-                    final int s = seat;
-                    text.append(answer(() -> x.told(fine, e, s))).append(' ');
-                    if (entry != NONE) {
-                        text.append(x.kept(fine, entry, seat)).append(' ');
-                    }
-                }
-            }
-        }
-        return text.toString();
-    }
-
     private static String counts(JuryTable x) {
         int[] counts = new int[9];
         for (int what = 0; what < counts.length; what++) {
@@ -174,8 +151,8 @@ public final class PromiseTest {
                 }
             }
         }
-        refused(x, "entry() of a seventh", STATE, x::entry);
-        refused(x, "entry() once more", STATE, x::entry);
+        refused("entry() of a seventh", STATE, x::entry);
+        refused("entry() once more", STATE, x::entry);
     }
 
     // Promises 3 and 4
@@ -227,10 +204,10 @@ public final class PromiseTest {
         due("counts behind ten values", fine ? 10 : 0, x.count(1));
         due("limits behind ten values", 0, x.count(5) + x.count(6));
         for (int entry : new int[] {NONE, 2, 5, 6, MIN, MAX}) {
-            refused(x, "a value of entry " + entry, NO_SUCH, () -> marked(x, fine, entry, 0, 1));
+            refused("a value of entry " + entry, NO_SUCH, () -> marked(x, fine, entry, 0, 1));
         }
         for (int seat : new int[] {-1, 5, 6, MIN, MAX}) {
-            refused(x, "a value at seat " + seat, NO_SUCH, () -> marked(x, fine, 0, seat, 1));
+            refused("a value at seat " + seat, NO_SUCH, () -> marked(x, fine, 0, seat, 1));
         }
     }
 
@@ -270,7 +247,7 @@ public final class PromiseTest {
         limit(x, fine, 0, -0.125);
         due("told() of the limit given last", -1L, x.told(fine, NONE, 0));
         for (int seat : new int[] {-1, 5, 6, MIN, MAX}) {
-            refused(x, "a limit of seat " + seat, NO_SUCH, () -> limited(x, fine, seat, 1));
+            refused("a limit of seat " + seat, NO_SUCH, () -> limited(x, fine, seat, 1));
         }
         x.entry();
         due("a limit is no value", STATE, answer(() -> x.told(fine, 0, 0)));
@@ -312,11 +289,11 @@ public final class PromiseTest {
         limit(x, fine, 0, 1);
         value(x, fine, 1, 0, 1);
         for (int entry : new int[] {-2, 2, 6, MIN, MAX}) {
-            refused(x, "clear() of entry " + entry, NO_SUCH, () -> x.clear(fine, entry, 0));
+            refused("clear() of entry " + entry, NO_SUCH, () -> x.clear(fine, entry, 0));
         }
         for (int seat : new int[] {-1, 5, MIN, MAX}) {
-            refused(x, "clear() at seat " + seat, NO_SUCH, () -> x.clear(fine, 0, seat));
-            refused(x, "clear() of limit " + seat, NO_SUCH, () -> x.clear(fine, NONE, seat));
+            refused("clear() at seat " + seat, NO_SUCH, () -> x.clear(fine, 0, seat));
+            refused("clear() of limit " + seat, NO_SUCH, () -> x.clear(fine, NONE, seat));
         }
     }
 
@@ -366,8 +343,8 @@ public final class PromiseTest {
             }
             JuryTable x = withEntries(2);
             WayCall call = (entry, seat, way) -> x.holds(fine, entry, seat, way);
-            wayRefused("holds", x, call);
-            seatRefused("holds", x, 5, call);
+            wayRefused("holds", call);
+            seatRefused("holds", 5, call);
         }
     }
 
@@ -375,20 +352,20 @@ public final class PromiseTest {
         Object made(int entry, int seat, int way);
     }
 
-    private static void wayRefused(String name, JuryTable x, WayCall call) {
+    private static void wayRefused(String name, WayCall call) {
         for (int entry : new int[] {NONE, 2, 6, MIN, MAX}) {
-            refused(x, name + " of entry " + entry, NO_SUCH, () -> call.made(entry, 0, 0));
-            refused(x, name + " of entry " + entry + " by way 24", NO_SUCH, () -> call.made(entry, 0, 24));
+            refused(name + " of entry " + entry, NO_SUCH, () -> call.made(entry, 0, 0));
+            refused(name + " of entry " + entry + " by way 24", NO_SUCH, () -> call.made(entry, 0, 24));
         }
         for (int way : new int[] {-1, 24, 25, MIN, MAX}) {
-            refused(x, name + " by way " + way, ARGUMENT, () -> call.made(1, 4, way));
+            refused(name + " by way " + way, ARGUMENT, () -> call.made(1, 4, way));
         }
     }
 
-    private static void seatRefused(String name, JuryTable x, int firstBehind, WayCall call) {
+    private static void seatRefused(String name, int firstBehind, WayCall call) {
         for (int seat : new int[] {-1, firstBehind, 6, MIN, MAX}) {
-            refused(x, name + " at seat " + seat, NO_SUCH, () -> call.made(0, seat, 0));
-            refused(x, name + " at seat " + seat + " by way -1", NO_SUCH, () -> call.made(0, seat, -1));
+            refused(name + " at seat " + seat, NO_SUCH, () -> call.made(0, seat, 0));
+            refused(name + " at seat " + seat + " by way -1", NO_SUCH, () -> call.made(0, seat, -1));
         }
     }
 
@@ -411,7 +388,7 @@ public final class PromiseTest {
             }
             due("tally() of the entry without values", 0, x.tally(fine, 0, 3));
             due("tally() of the other seats", 5, x.tally(!fine, 1, 5));
-            wayRefused("tally", x, (entry, seat, way) -> x.tally(fine, entry, way));
+            wayRefused("tally", (entry, seat, way) -> x.tally(fine, entry, way));
         }
     }
 
@@ -439,9 +416,9 @@ public final class PromiseTest {
             due("run() of the entry without values", 5, x.run(fine, 0, 0, 5));
             due("run() from 5 by what is not so", 5, x.run(fine, 0, 5, 4));
             WayCall call = (entry, from, way) -> x.run(fine, entry, from, way);
-            wayRefused("run", x, call);
-            seatRefused("run", x, 6, call);
-            refused(x, "run() from 5 by way 24", ARGUMENT, () -> x.run(fine, 0, 5, 24));
+            wayRefused("run", call);
+            seatRefused("run", 6, call);
+            refused("run() from 5 by way 24", ARGUMENT, () -> x.run(fine, 0, 5, 24));
         }
     }
 
@@ -465,8 +442,8 @@ public final class PromiseTest {
             }
             due("told() of the value behind keep()", 8L, x.told(fine, 1, 3));
             WayCall call = (entry, seat, way) -> x.keep(fine, entry, seat, way);
-            wayRefused("keep", x, call);
-            seatRefused("keep", x, 5, call);
+            wayRefused("keep", call);
+            seatRefused("keep", 5, call);
         }
     }
 
@@ -505,10 +482,10 @@ public final class PromiseTest {
         JuryTable x = withEntries(2);
         x.keep(fine, 0, 0, 5);
         for (int entry : new int[] {NONE, 2, 6, MIN, MAX}) {
-            refused(x, "kept() of entry " + entry, NO_SUCH, () -> x.kept(fine, entry, 0));
+            refused("kept() of entry " + entry, NO_SUCH, () -> x.kept(fine, entry, 0));
         }
         for (int seat : new int[] {-1, 5, MIN, MAX}) {
-            refused(x, "kept() at seat " + seat, NO_SUCH, () -> x.kept(fine, 0, seat));
+            refused("kept() at seat " + seat, NO_SUCH, () -> x.kept(fine, 0, seat));
         }
     }
 
@@ -556,10 +533,10 @@ public final class PromiseTest {
                     places(column(fine, 0, 3.0, 2.0, 1.0), !fine, 0, false));
             JuryTable x = withEntries(2);
             for (int entry : new int[] {NONE, 2, 6, MIN, MAX}) {
-                refused(x, "place() of entry " + entry, NO_SUCH, () -> x.place(fine, entry, 0, true));
+                refused("place() of entry " + entry, NO_SUCH, () -> x.place(fine, entry, 0, true));
             }
             for (int seat : new int[] {-1, 5, MIN, MAX}) {
-                refused(x, "place() by seat " + seat, NO_SUCH, () -> x.place(fine, 0, seat, false));
+                refused("place() by seat " + seat, NO_SUCH, () -> x.place(fine, 0, seat, false));
             }
         }
     }
@@ -602,11 +579,11 @@ public final class PromiseTest {
 
     private static void bestRefused(JuryTable x, boolean fine) {
         for (int seat : new int[] {-1, 5, MIN, MAX}) {
-            refused(x, "best() by seat " + seat, NO_SUCH, () -> x.best(fine, seat, 0));
-            refused(x, "best() by seat " + seat + ", how 4", NO_SUCH, () -> x.best(fine, seat, 4));
+            refused("best() by seat " + seat, NO_SUCH, () -> x.best(fine, seat, 0));
+            refused("best() by seat " + seat + ", how 4", NO_SUCH, () -> x.best(fine, seat, 4));
         }
         for (int how : new int[] {-1, 4, MIN, MAX}) {
-            refused(x, "best(), how " + how, ARGUMENT, () -> x.best(fine, 4, how));
+            refused("best(), how " + how, ARGUMENT, () -> x.best(fine, 4, how));
         }
     }
 
@@ -643,13 +620,13 @@ public final class PromiseTest {
 
     private static void againstRefused(JuryTable x, boolean fine) {
         for (int entry : new int[] {NONE, 4, 6, MIN, MAX}) {
-            refused(x, "against() of a " + entry, NO_SUCH, () -> x.against(fine, entry, 0, 0));
-            refused(x, "against() of b " + entry, NO_SUCH, () -> x.against(fine, 0, entry, 0));
-            refused(x, "against() of a " + entry + ", what 5", NO_SUCH, () -> x.against(fine, entry, 0, 5));
-            refused(x, "against() of b " + entry + ", what 5", NO_SUCH, () -> x.against(fine, 0, entry, 5));
+            refused("against() of a " + entry, NO_SUCH, () -> x.against(fine, entry, 0, 0));
+            refused("against() of b " + entry, NO_SUCH, () -> x.against(fine, 0, entry, 0));
+            refused("against() of a " + entry + ", what 5", NO_SUCH, () -> x.against(fine, entry, 0, 5));
+            refused("against() of b " + entry + ", what 5", NO_SUCH, () -> x.against(fine, 0, entry, 5));
         }
         for (int what : new int[] {-1, 5, MIN, MAX}) {
-            refused(x, "against(), what " + what, ARGUMENT, () -> x.against(fine, 0, 1, what));
+            refused("against(), what " + what, ARGUMENT, () -> x.against(fine, 0, 1, what));
         }
     }
 
@@ -666,16 +643,16 @@ public final class PromiseTest {
             }
             value(x, fine, 1, 4, -0.0);
             due("told() of -0", 0L, x.told(fine, 1, 4));
-            refused(x, "told() of NONE", STATE, () -> x.told(fine, 0, 4));
-            refused(x, "told() of NONE at another seat", STATE, () -> x.told(fine, 1, 3));
-            refused(x, "told() of a limit that is NONE", STATE, () -> x.told(fine, NONE, 3));
-            refused(x, "told() of the other seats", STATE, () -> x.told(!fine, 1, 4));
+            refused("told() of NONE", STATE, () -> x.told(fine, 0, 4));
+            refused("told() of NONE at another seat", STATE, () -> x.told(fine, 1, 3));
+            refused("told() of a limit that is NONE", STATE, () -> x.told(fine, NONE, 3));
+            refused("told() of the other seats", STATE, () -> x.told(!fine, 1, 4));
             for (int entry : new int[] {-2, 2, 6, MIN, MAX}) {
-                refused(x, "told() of entry " + entry, NO_SUCH, () -> x.told(fine, entry, 4));
+                refused("told() of entry " + entry, NO_SUCH, () -> x.told(fine, entry, 4));
             }
             for (int seat : new int[] {-1, 5, MIN, MAX}) {
-                refused(x, "told() at seat " + seat, NO_SUCH, () -> x.told(fine, 0, seat));
-                refused(x, "told() of limit " + seat, NO_SUCH, () -> x.told(fine, NONE, seat));
+                refused("told() at seat " + seat, NO_SUCH, () -> x.told(fine, 0, seat));
+                refused("told() of limit " + seat, NO_SUCH, () -> x.told(fine, NONE, seat));
             }
         }
         JuryTable x = withEntries(1);
@@ -700,7 +677,7 @@ public final class PromiseTest {
             due("sum() behind clear()", 27L, x.sum(fine, 1));
             sumOfParts(fine);
             for (int entry : new int[] {NONE, 3, 6, MIN, MAX}) {
-                refused(x, "sum() of entry " + entry, NO_SUCH, () -> x.sum(fine, entry));
+                refused("sum() of entry " + entry, NO_SUCH, () -> x.sum(fine, entry));
             }
         }
         JuryTable x = withEntries(1);
@@ -770,7 +747,7 @@ public final class PromiseTest {
         due("counts behind entry()", "[3, 3, 4, 12, 11, 1, 2, 2, 3]", counts(x));
         countFull();
         for (int what : new int[] {-1, 9, 10, MIN, MAX}) {
-            refused(x, "count() of " + what, ARGUMENT, () -> x.count(what));
+            refused("count() of " + what, ARGUMENT, () -> x.count(what));
         }
     }
 
