@@ -22,16 +22,15 @@ public final class JuryTable {
     private static final int AGAINST_KINDS = 5;
     private static final int COUNT_KINDS = 9;
 
-    /** From here on a double has no part behind the point, and its whole part may not fit a long. */
-    private static final long NO_FRACTION_FROM = 1L << 53;
-
     private final Panel judges;
     private final Panel scorers;
+    private final Total total;
     private int entries;
 
     public JuryTable() {
         judges = new Panel();
         scorers = new Panel();
+        total = new Total();
         entries = 0;
     }
 
@@ -144,7 +143,7 @@ public final class JuryTable {
 
     public long sum(boolean fine, int entry) throws NoSuchElementException {
         requireEntry(entry);
-        return panel(fine).sumOfEighths(entry);
+        return panel(fine).sumOfEighths(entry, total);
     }
 
     public int count(int what) throws IllegalArgumentException {
@@ -382,33 +381,15 @@ public final class JuryTable {
             return (long) (numbers[cell] * 8.0);
         }
 
-        /** Whole eighths are summed apart from what is left of them, so that neither loses a bit of the other. */
-        long sumOfEighths(int entry) {
-            long whole = 0L;
-            double rest = 0.0;
+        long sumOfEighths(int entry, Total total) {
+            total.restart();
             for (int seat = 0; seat < SEATS; seat++) {
                 int cell = cellOf(entry, seat);
                 if (given[cell]) {
-                    whole += eighthsAt(cell);
-                    rest += restAt(cell);
+                    total.include(numbers[cell]);
                 }
             }
-            long carried = (long) rest;
-            return towardsZero(whole + carried, rest - (double) carried);
-        }
-
-        private double restAt(int cell) {
-            double eighths = numbers[cell] * 8.0;
-            boolean mayHaveRest = eighths > -NO_FRACTION_FROM && eighths < NO_FRACTION_FROM;
-            return mayHaveRest ? eighths - (double) eighthsAt(cell) : 0.0;
-        }
-
-        /** A sum drops its rest as a single value does: towards 0. */
-        private static long towardsZero(long whole, double rest) {
-            if (whole > 0L && rest < 0.0) {
-                return whole - 1L;
-            }
-            return whole < 0L && rest > 0.0 ? whole + 1L : whole;
+            return total.wholeEighths();
         }
 
         int numbersOfEntries() {
@@ -427,6 +408,97 @@ public final class JuryTable {
                 }
             }
             return found;
+        }
+    }
+
+    /**
+     * A sum that loses nothing of what it is made of: values that no long holds may stand against each other
+     * and leave a sum that a long does hold. It has digits of 51 bits each. Digit 0 counts the least double
+     * that there is, 2 to the power of -1074, and with 51 bits a digit it is eighths that digit 21 counts.
+     */
+    private static final class Total {
+        private static final int DIGIT_BITS = 51;
+        private static final long DIGIT_MASK = (1L << DIGIT_BITS) - 1L;
+        private static final int EIGHTHS_DIGIT = 21;
+        private static final int TOP_DIGIT = 41;
+
+        /** More than the numbers that have an end can bring to the top digit together. */
+        private static final long ENDLESS = 1L << 20;
+
+        private static final int LONG_BITS = 63;
+        private static final long LEAST_LONG = 1L << LONG_BITS;
+        private static final long GREATEST_LONG = ~LEAST_LONG;
+
+        private final long[] digits;
+
+        Total() {
+            digits = new long[TOP_DIGIT + 1];
+        }
+
+        void restart() {
+            Arrays.fill(digits, 0L);
+        }
+
+        void include(double number) {
+            if (number > 0x1.fffffffffffffp1023) {
+                digits[TOP_DIGIT] += ENDLESS;
+            } else if (number < -0x1.fffffffffffffp1023) {
+                digits[TOP_DIGIT] -= ENDLESS;
+            } else if (number > -0x1p48 && number < 0x1p48) {
+                // Most numbers are small: this spares them the digits that are 0.
+                takeApart(number, EIGHTHS_DIGIT, 0x1p-3);
+            } else {
+                takeApart(number, TOP_DIGIT, 0x1p1017);
+            }
+        }
+
+        /** Units are powers of 2, so no step rounds. */
+        private void takeApart(double number, int firstDigit, double firstUnit) {
+            double left = number;
+            double unit = firstUnit;
+            for (int digit = firstDigit; digit >= 0 && left != 0.0; digit--) {
+                long units = (long) (left / unit);
+                digits[digit] += units;
+                left -= (double) units * unit;
+                unit *= 0x1p-51;
+            }
+        }
+
+        /** A sum drops its rest as a single value does, towards 0, and stops at a long's ends as that does. */
+        long wholeEighths() {
+            carry();
+            boolean belowZero = digits[TOP_DIGIT] < 0L;
+            if (belowZero) {
+                turnSign();
+                carry();
+            }
+            if (isBeyondLong()) {
+                return belowZero ? LEAST_LONG : GREATEST_LONG;
+            }
+            long eighths = (digits[EIGHTHS_DIGIT + 1] << DIGIT_BITS) + digits[EIGHTHS_DIGIT];
+            return belowZero ? -eighths : eighths;
+        }
+
+        /** Behind it only the top digit may be less than 0, and then the sum is. */
+        private void carry() {
+            for (int digit = 0; digit < TOP_DIGIT; digit++) {
+                digits[digit + 1] += digits[digit] >> DIGIT_BITS;
+                digits[digit] &= DIGIT_MASK;
+            }
+        }
+
+        private void turnSign() {
+            for (int digit = 0; digit <= TOP_DIGIT; digit++) {
+                digits[digit] = -digits[digit];
+            }
+        }
+
+        private boolean isBeyondLong() {
+            boolean beyond = digits[EIGHTHS_DIGIT + 1] >> (LONG_BITS - DIGIT_BITS) != 0L;
+            for (int digit = EIGHTHS_DIGIT + 2; digit <= TOP_DIGIT; digit++) {
+                beyond = beyond || digits[digit] != 0L;
+            }
+            return beyond;
         }
     }
 }

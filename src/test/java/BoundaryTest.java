@@ -145,6 +145,7 @@ public final class BoundaryTest {
         ofBoth("told", "there is no such entry (NONE aside)", BoundaryTest::toldOfNoEntry);
         ofBoth("told", "there is no such .. seat", BoundaryTest::toldAtNoSeat);
         ofBoth("told", "IllegalStateException: it is NONE", BoundaryTest::toldOfNone);
+        ofBoth("sum", "The sum .., in eighths", BoundaryTest::sumOfOpposites);
         ofBoth("sum", "values that are numbers", BoundaryTest::sumOfNumbers);
         ofBoth("sum", "0 without any", BoundaryTest::sumWithoutAny);
         ofBoth("sum", "there is no such entry", BoundaryTest::sumOfNoEntry);
@@ -1172,6 +1173,21 @@ public final class BoundaryTest {
         due("sum() where a float would lose the ones", 24L, x.sum(fine, 1));
         row(x, fine, 2, 16777215.0, 16777215.0, 16777215.0, 16777215.0, 16777215.0);
         due("sum() of five great ones", 40L * 16777215, x.sum(fine, 2));
+    }
+
+    /** What is told is the sum: that no long holds the eighths of a value does not matter. */
+    private static void sumOfOpposites(boolean fine) {
+        int greatest = fine ? 1023 : 127;
+        for (int power = -3; power <= greatest; power++) {
+            double great = Math.scalb(1.0, power);
+            JuryTable x = withEntries(ENTRIES);
+            row(x, fine, 0, great, -great);
+            row(x, fine, 1, -great, -great, 0.125, great, great);
+            row(x, fine, 2, -0.125, great, great, -great, -great);
+            due("sum() of 2^" + power + " and its opposite", 0L, x.sum(fine, 0));
+            due("sum() of two such pairs and 1/8", 1L, x.sum(fine, 1));
+            due("sum() of two such pairs and -1/8", -1L, x.sum(fine, 2));
+        }
     }
 
     private static void sumWithoutAny(boolean fine) {

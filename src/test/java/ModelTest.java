@@ -1,3 +1,5 @@
+import java.math.BigDecimal;
+import java.math.BigInteger;
 import java.util.Arrays;
 import java.util.NoSuchElementException;
 import java.util.Random;
@@ -11,6 +13,7 @@ public final class ModelTest {
     private static final int RUNS = 3000;
     private static final int CALLS = 512;
     private static final int WRONG_TO_SHOW = 20;
+    private static final double[] GREAT = {0x1p55, 0x1p63, 0x1p64, 0x1p110};
 
     private static int wrong = 0;
     private static long calls = 0;
@@ -31,9 +34,10 @@ public final class ModelTest {
         Model model = new Model();
         int range = 1 + random.nextInt(4);
         int strange = random.nextInt(3) == 0 ? 4 : 40;
+        boolean great = random.nextInt(4) == 0;
         for (int i = 0; i < CALLS; i++) {
             calls++;
-            if (!oneCall(seed, i, random, range, strange, table, model)) {
+            if (!oneCall(seed, i, random, () -> number(random, range, great), strange, table, model)) {
                 return;
             }
         }
@@ -48,12 +52,15 @@ public final class ModelTest {
         return odd[random.nextInt(odd.length)];
     }
 
-    private static double number(Random random, int range) {
+    /** Few numbers, so that values often meet their like; in some runs great ones, too. */
+    private static double number(Random random, int range, boolean great) {
         int eighths = random.nextInt(2 * range + 1) - range;
-        return eighths == 0 && random.nextBoolean() ? -0.0 : eighths / 8.0;
+        double plain = eighths == 0 && random.nextBoolean() ? -0.0 : eighths / 8.0;
+        return great && random.nextInt(3) != 0 ? plain * GREAT[random.nextInt(GREAT.length)] : plain;
     }
 
-    private static boolean oneCall(int seed, int i, Random random, int range, int strange, JuryTable t, Model m) {
+    private static boolean oneCall(int seed, int i, Random random, Supplier<Double> numbers, int strange,
+            JuryTable t, Model m) {
         int kind = random.nextInt(i < 3 ? 1 : 30);
         boolean f = random.nextBoolean();
         boolean strict = random.nextBoolean();
@@ -66,7 +73,7 @@ public final class ModelTest {
         int how = pick(random, 4, strange);
         int what = pick(random, 5, strange);
         int which = pick(random, 9, strange);
-        double v = number(random, range);
+        double v = numbers.get();
         int orNone = random.nextInt(5) == 0 ? -1 : e;
         switch (kind) {
             case 0: return i < 3 || random.nextInt(8) == 0
@@ -360,11 +367,15 @@ public final class ModelTest {
 
         Object sum(boolean f, int e) {
             entryThere(e);
-            double sum = 0;
+            BigDecimal sum = BigDecimal.ZERO;
             for (int s = 0; s < 5; s++) {
-                sum += Double.isNaN(at(f, e, s)) ? 0 : at(f, e, s);
+                sum = sum.add(Double.isNaN(at(f, e, s)) ? BigDecimal.ZERO : new BigDecimal(at(f, e, s)));
             }
-            return (long) (sum * 8);
+            BigInteger eighths = sum.multiply(BigDecimal.valueOf(8)).toBigInteger();
+            if (eighths.bitLength() <= 63) {
+                return eighths.longValue();
+            }
+            return eighths.signum() > 0 ? Long.MAX_VALUE : Long.MIN_VALUE;
         }
 
         private int numbers(boolean f, int firstEntry, int behind) {
