@@ -42,7 +42,7 @@ public final class FaceTest {
 
     private static int wrong = 0;
 
-    public static void main(String[] args) throws IOException {
+    public static void main(String[] args) throws IOException, IllegalAccessException {
         methods();
         fieldsAndConstructors();
         innerClasses();
@@ -90,21 +90,41 @@ public final class FaceTest {
         }
     }
 
-    private static void fieldsAndConstructors() {
-        due(Modifier.isFinal(JuryTable.class.getModifiers()), "the class is not final");
+    private static void fieldsAndConstructors() throws IllegalAccessException {
+        due(JuryTable.class.getModifiers() == (Modifier.PUBLIC | Modifier.FINAL), "the class is not public final");
+        due(Arrays.stream(JuryTable.class.getDeclaredFields()).anyMatch(f -> f.getName().equals("NONE")),
+                "there is no constant NONE");
         for (Field f : JuryTable.class.getDeclaredFields()) {
-            due(f.getName().equals("NONE") || Modifier.isPrivate(f.getModifiers()), f + " is not private");
-            due(!Modifier.isStatic(f.getModifiers()) || Modifier.isFinal(f.getModifiers()), f + " is not final");
+            if (f.getName().equals("NONE")) {
+                constant(f);
+            } else {
+                due(Modifier.isPrivate(f.getModifiers()), f + " is not private");
+            }
+            staticIsFinal(f);
         }
         Constructor<?>[] all = JuryTable.class.getDeclaredConstructors();
         due(all.length == 1 && all[0].getParameterCount() == 0 && Modifier.isPublic(all[0].getModifiers()),
                 "the constructors are " + Arrays.toString(all));
     }
 
+    /** Read from the field, as the compiler writes the constant itself into those that use its name. */
+    private static void constant(Field f) throws IllegalAccessException {
+        due(f.getModifiers() == (Modifier.PUBLIC | Modifier.STATIC | Modifier.FINAL) && f.getType() == int.class,
+                f + " is not a public constant of int");
+        due(f.get(null).equals(-1), f + " is " + f.get(null) + ", due is -1");
+    }
+
+    private static void staticIsFinal(Field f) {
+        due(!Modifier.isStatic(f.getModifiers()) || Modifier.isFinal(f.getModifiers()), f + " is not final");
+    }
+
     private static void innerClasses() {
         for (Class<?> c : JuryTable.class.getDeclaredClasses()) {
             int m = c.getModifiers();
             due(Modifier.isStatic(m) && !Modifier.isPublic(m) && !Modifier.isProtected(m), c + " is seen outside");
+            for (Field f : c.getDeclaredFields()) {
+                staticIsFinal(f);
+            }
         }
     }
 
